@@ -65,4 +65,23 @@ final class Due {
         is(call + ", then ALIKE " + text, x.order(shelf, 11), 0);
         x.undo(11);
     }
+
+    /** An object whose calls have made so many THINGS: 197 a call, then one by one. */
+    NestedFoci spent(int made) {
+        NestedFoci x = new NestedFoci();
+        thing(x, 0, "[1,1,1,1,1,1,1,1]");
+        path(x, 7, "%");
+        x.over(0, 0, 7, 6, 0);
+        x.put(0, 1, 0, 0, 0);
+        x.put(0, 1, 0, 0, 0);
+        x.put(0, 1, 0, 0, 0);
+        for (int i = 0; i < 100 && x.count(21) + 143 <= made; i++) {
+            x.over(1, 0, 7, 0, 1);
+        }
+        for (int i = 0; i < 200 && x.count(21) < made; i++) {
+            x.put(2, 0, 3, 3, 0);
+        }
+        is("made beforehand", x.count(21), made);
+        return x;
+    }
 }

@@ -9,6 +9,7 @@ public final class LookTest {
         look();
         key();
         folds();
+        foldsBehindMore();
         foldTrouble();
         best();
         order();
@@ -155,6 +156,28 @@ public final class LookTest {
         DUE.is("a sum beyond int", x.fold(0, 0, 1), 3L * Integer.MAX_VALUE);
         x.over(0, 0, 0, 0, 1);
         DUE.is("a sum below int", x.fold(0, 0, 1), 3L * Integer.MIN_VALUE);
+    }
+
+    /** What an earlier look found is gone. */
+    private static void foldsBehindMore() {
+        foldsBehind("[1,-9,99,-99,(7,[8])]");
+        foldsBehind("[1,99,-9,(7,[8])]");
+    }
+
+    private static void foldsBehind(String more) {
+        NestedFoci x = Due.with(more, "*");
+        Due.thing(x, 1, "[4]");
+        long[] due = {1, 4, 0, 0, 1, 0, 1};
+        for (int code = 0; code < due.length; code++) {
+            x.fold(0, 0, 0);
+            DUE.is("fold " + code + " behind " + more, x.fold(1, 0, code), due[code]);
+        }
+        x.fold(0, 0, 0);
+        DUE.is("best behind more", x.best(1, 0, 0, 1), NestedFoci.NONE);
+        x.fold(0, 0, 0);
+        DUE.is("look behind more", x.look(1, 0, 1, 0), NestedFoci.NO);
+        x.differ(0, 1, -1);
+        DUE.is("differ behind more", x.differ(1, 1, 0), NestedFoci.NONE);
     }
 
     private static void foldTrouble() {

@@ -18,6 +18,7 @@ public final class OverTest {
         undo();
         remembersTen();
         fit();
+        fitBehindMore();
         fitTrouble();
         DUE.end();
     }
@@ -86,6 +87,13 @@ public final class OverTest {
         over("(1,1)", "", 8, 0, 1, 1, "(1,1)");
         over("[]", "", 9, 0, 1, 1, "[]");
         over("[]", "", 10, 0, 1, 1, "[]");
+        NestedFoci turned = Due.with("{a:1,b:2,ab:4}", "");
+        Due.path(turned, 1, "%");
+        turned.over(1, 0, 0, 11, 0);
+        for (int k = 0; k < 3; k++) {
+            DUE.is("turned " + k, turned.look(1, 1, k, 1), new int[] {4, 1, 2}[k]);
+            DUE.is("turned key " + k, turned.key(1, 0, 0, k), new int[] {1, 2, 29}[k]);
+        }
         // ALIKE ones keep their order as a ROW is sorted: the first made is still the first
         NestedFoci x = new NestedFoci();
         Due.thing(x, 0, "[5,5]");
@@ -210,7 +218,7 @@ public final class OverTest {
     }
 
     private static void overMade() {
-        NestedFoci x = ReadingTest.spent(2990);
+        NestedFoci x = DUE.spent(2990);
         Due.path(x, 0, "%");
         Due.path(x, 1, "/9");
         int remembered = x.count(3);
@@ -225,15 +233,15 @@ public final class OverTest {
         DUE.is("put MADE", x.put(3, 0, 3, 3, 0), NestedFoci.MADE);
         DUE.is("fit MADE", x.fit(0, 0, 3), NestedFoci.MADE);
         DUE.is("3000", x.count(21), 3000);
-        NestedFoci y = ReadingTest.spent(2998);
+        NestedFoci y = DUE.spent(2998);
         Due.path(y, 0, "");
         DUE.is("over up to 3000", y.over(5, 4, 0, 4, 1), 1);
         DUE.is("made 3000", y.count(21), 3000);
-        NestedFoci z = ReadingTest.spent(2999);
+        NestedFoci z = DUE.spent(2999);
         Due.path(z, 0, "");
         DUE.is("over by two when one is left", z.over(5, 4, 0, 4, 1), NestedFoci.MADE);
         DUE.is("made 3000 then", z.count(21), 3000);
-        NestedFoci w = ReadingTest.spent(2990);
+        NestedFoci w = DUE.spent(2990);
         Due.path(w, 0, "%");
         DUE.is("MADE is told, not FULL", w.over(5, 0, 0, 4, 1), NestedFoci.MADE);
     }
@@ -288,7 +296,7 @@ public final class OverTest {
         NestedFoci y = Due.with("[[[[[[[[[[[[1]]]]]]]]]]]]", "");
         DUE.is("put FULL by HEIGHT", y.put(1, 0, 0, 1, 0), NestedFoci.FULL);
         DUE.is("put FULL counts none", y.count(21), 13);
-        NestedFoci z = ReadingTest.spent(3000);
+        NestedFoci z = DUE.spent(3000);
         DUE.is("put STATE ahead of MADE", z.put(1, 2, 0, 0, 0), NestedFoci.STATE);
         DUE.is("put MADE ahead of FULL", z.put(1, 1, 0, 0, 0), NestedFoci.MADE);
         DUE.is("put MADE", z.put(1, 1, 4, 4, 0), NestedFoci.MADE);
@@ -377,6 +385,8 @@ public final class OverTest {
         fit("[1,2,3]", "/7", "9", 7, 0);
         fit("5", "%", "(1,2)", 0, 1);
         fit("5", "%", "[]", 6, 0);
+        fit("5", "%", "[1]", 1, 1);
+        fit("[5,6]", "%", "[7,7]", 0, 1 + 3);
         fit("[1,1]", "=3;", "9", 7, 0);
         fit("[1,2]", "*<1>", "(1,2)", 6, 1);
         // the one FOCUS becomes a ROW whose own FOCUS then isn't what was put
@@ -390,6 +400,13 @@ public final class OverTest {
         fit("[1]", "~%", "[3,4]", 0, 1 + 2);
         fit("(4,5)", "~<1>", "(4,5)", 6, 1);
         fit("0", "~", "0", 7, 0);
+    }
+
+    private static void fitBehindMore() {
+        NestedFoci x = Due.with("[1,2,3,4]", "%");
+        Due.thing(x, 1, "7");
+        x.fold(0, 0, 0);
+        DUE.is("fit looks at its own FOCI alone", x.fit(1, 0, 1), 7);
     }
 
     private static void fitTrouble() {
@@ -406,18 +423,18 @@ public final class OverTest {
         x.put(1, 1, 0, 0, 0);
         DUE.is("FULL by the first OVER", x.fit(0, 0, 1), NestedFoci.FULL);
         DUE.is("one is counted", x.count(21), 13 + 1 + 13 + 1 + 1);
-        NestedFoci y = ReadingTest.spent(2999);
+        NestedFoci y = DUE.spent(2999);
         Due.path(y, 0, "%");
         y.take(4, 0, 0, 0);
         DUE.is("MADE by the first OVER", y.fit(0, 0, 4), NestedFoci.MADE);
         DUE.is("counted up to 3000", y.count(21), 3000);
-        NestedFoci z = ReadingTest.spent(2999 - 3);
+        NestedFoci z = DUE.spent(2999 - 3);
         Due.path(z, 0, "*");
         Due.path(z, 1, "%");
         Due.thing(z, 5, "[1,2]");
         DUE.is("a first OVER that makes one", z.fit(5, 0, 4), 7);
         DUE.is("made 3000", z.count(21), 3000);
-        NestedFoci v = ReadingTest.spent(2999 - 3);
+        NestedFoci v = DUE.spent(2999 - 3);
         Due.path(v, 1, "%");
         Due.thing(v, 5, "[1,2]");
         DUE.is("MADE by the second OVER", v.fit(5, 1, 5), NestedFoci.MADE);

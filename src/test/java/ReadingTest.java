@@ -144,10 +144,12 @@ public final class ReadingTest {
         DUE.is("height 12 with an empty one", Due.thing(x, 0, open12 + "{}" + close12), 13);
         DUE.is("its height", x.look(0, 0, 0, 3), 12);
         DUE.is("tagged height 12", Due.thing(x, 0, "#1#1#1#1#1#1#1#1#1#1#1#1" + "5"), 13);
+        DUE.is("pairs of height 12", Due.thing(x, 0, "(1,".repeat(12) + "1" + ")".repeat(12)), 25);
         String[] texts = {open12 + "[7]", open12 + "[", open12 + "[x", open12 + "#1", open12 + "#17", open12 + "{a:",
             open12 + "{a:1", open12 + "{x", open12 + "{4", open12 + "(1,2)", "#1#1#1#1#1#1#1#1#1#1#1#1#15",
-            "((((((((((((1", "((((((((((((((", open12 + "7]"};
-        int[] places = {13, 13, 13, 14, 14, 15, 15, 14, 13, 13, 26, 13, 13, 14};
+            "((((((((((((1", "((((((((((((((", open12 + "7]", "(1,".repeat(13) + "1", "(1,".repeat(12) + "(1,2)",
+            "{a:".repeat(13) + "1"};
+        int[] places = {13, 13, 13, 14, 14, 15, 15, 14, 13, 13, 26, 13, 13, 14, 37, 37, 39};
         faults(new NestedFoci(), texts, places, false);
     }
 
@@ -169,7 +171,7 @@ public final class ReadingTest {
     }
 
     private static void thingMade() {
-        NestedFoci x = spent(2990);
+        NestedFoci x = DUE.spent(2990);
         Due.feed(x, "[1,2,3,4,5,6,7,8,9,10]");
         int remembered = x.count(5);
         DUE.is("thing over 3000", x.thing(5), NestedFoci.MADE);
@@ -184,25 +186,6 @@ public final class ReadingTest {
         Due.feed(x, "1");
         DUE.is("thing behind 3000", x.thing(5), NestedFoci.MADE);
         DUE.is("count stays 3000", x.count(21), 3000);
-    }
-
-    /** An object whose calls have made so many THINGS: 197 a call, then one by one. */
-    static NestedFoci spent(int made) {
-        NestedFoci x = new NestedFoci();
-        Due.thing(x, 0, "[1,1,1,1,1,1,1,1]");
-        Due.path(x, 7, "%");
-        x.over(0, 0, 7, 6, 0);
-        x.put(0, 1, 0, 0, 0);
-        x.put(0, 1, 0, 0, 0);
-        x.put(0, 1, 0, 0, 0);
-        for (int i = 0; i < 100 && x.count(21) + 143 <= made; i++) {
-            x.over(1, 0, 7, 0, 1);
-        }
-        for (int i = 0; i < 200 && x.count(21) < made; i++) {
-            x.put(2, 0, 3, 3, 0);
-        }
-        DUE.is("made beforehand", x.count(21), made);
-        return x;
     }
 
     private static void paths() {
