@@ -388,6 +388,7 @@ public final class NestedFoci {
         final int word;
         final int nodes;
         final int height;
+        /** KEYS as digits of 27, in order; none but in a MAP. */
         private final int[] keys;
         private final Thing[] parts;
 
@@ -407,11 +408,6 @@ public final class NestedFoci {
             }
             this.nodes = sum;
             this.height = top + 1;
-        }
-
-        /** This one's frame around other parts; KEYS stay. */
-        Thing around(Thing[] others) {
-            return new Thing(kind, word, keys, others);
         }
 
         int size() {
@@ -1100,7 +1096,7 @@ public final class NestedFoci {
         }
 
         private Thing makeAround(Thing thing, Thing[] parts) {
-            return mayMake() ? thing.around(parts) : thing;
+            return mayMake() ? new Thing(thing.kind, thing.word, thing.keys, parts) : thing;
         }
 
         private boolean mayMake() {
