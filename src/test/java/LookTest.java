@@ -18,72 +18,60 @@ public final class LookTest {
         DUE.end();
     }
 
-    /** The FOCI of a PATH, told by what the ROW of them is: each is taken, and put behind those before. */
-    private static void foci(String thing, String path, String... texts) {
-        NestedFoci x = Due.with(thing, path);
-        String call = "foci of " + path + " in " + thing;
-        DUE.is(call, x.fold(0, 0, 0), texts.length);
-        for (int k = 0; k < texts.length; k++) {
-            x.take(1, 0, 0, k);
-            DUE.holds(call + " " + k, x, 1, texts[k]);
-        }
-        DUE.is(call + ", none behind", x.take(1, 0, 0, texts.length), NestedFoci.NONE);
-    }
-
     private static void steps() {
-        foci("(1,[2])", "", "(1,[2])");
-        foci("(1,[2])", ".0", "1");
-        foci("(1,[2])", ".1", "[2]");
-        foci("[1,2]", ".0");
-        foci("{a:1,b:2}", ".0");
-        foci("#01", ".0");
-        foci("[1,2,(3,4)]", "/0", "1");
-        foci("[1,2,(3,4)]", "/2", "(3,4)");
-        foci("[1,2,(3,4)]", "/3");
-        foci("[1,2,(3,4)]", "/02", "(3,4)");
-        foci("[0,1,2,3,4,5,6,7,8,9,10,11]", "/11", "11");
-        foci("[]", "/0");
-        foci("(1,2)", "/0");
-        foci("{a:1}", "/0");
-        foci("{a:1,b:2,ab:3,abc:4}", "$b.", "2");
-        foci("{a:1,b:2,ab:3,abc:4}", "$ab.", "3");
-        foci("{a:1,b:2,ab:3,abc:4}", "$abc.", "4");
-        foci("{a:1,b:2,ab:3,abc:4}", "$c.");
-        foci("{a:1,b:2,ab:3,abc:4}", "$ba.");
-        foci("[1]", "$a.");
-        foci("#3[1]", "#3", "[1]");
-        foci("#3[1]", "#2");
-        foci("#0#01", "#0", "#01");
-        foci("[1]", "#0");
-        foci("[1,[2]]", "*", "1", "[2]");
-        foci("{b:1,aa:2,a:3}", "*", "3", "1", "2");
-        foci("(1,2)", "*");
-        foci("#11", "*");
-        foci("5", "*");
-        foci("{}", "*");
-        foci("(1,[2])", "~", "1", "[2]");
-        foci("[1,[2]]", "~", "1", "[2]");
-        foci("{b:1,a:2}", "~", "2", "1");
-        foci("#1(2,3)", "~", "(2,3)");
-        foci("5", "~");
-        foci("[]", "~");
-        foci("5", "%", "5");
-        foci("[(1,2),{b:3,a:#1[4]},[],{},(5,(6,7))]", "%", "1", "2", "4", "3", "5", "6", "7");
-        foci("[1,[2],(3,4)]", "*<1>", "1");
-        foci("[1,[2],(3,4)]", "*<2>", "1", "[2]");
-        foci("[1,[2],(3,4)]", "*<3>", "1", "[2]", "(3,4)");
-        foci("1", "<0>");
-        foci("[1,-2,2,[2]]", "*=2;", "2");
-        foci("[1,-2,2,[2]]", "%=2;", "2", "2");
-        foci("[1,-2,2,[2]]", "*=-2;", "-2");
-        foci("[0,1]", "*=-0;", "0");
-        foci("[(1,2),(3,4),[5]]", "*.1", "2", "4");
-        foci("[{a:(1,2)},{b:3},{a:4}]", "*$a.", "(1,2)", "4");
-        foci("[{a:(1,2)},{b:3},{a:4}]", "*$a.~", "1", "2");
-        foci("[[1,[2]],[3]]", "~~%", "1", "2", "3");
-        foci("[1,2]", "%%%", "1", "2");
-        foci("[1,2]", "%~");
-        foci("[[1,2],[3],[4,5,6]]", "*<3>*", "1", "2", "3");
+        DUE.foci("(1,[2])", "", "(1,[2])");
+        DUE.foci("(1,[2])", ".0", "1");
+        DUE.foci("(1,[2])", ".1", "[2]");
+        DUE.foci("[1,2]", ".0");
+        DUE.foci("{a:1,b:2}", ".0");
+        DUE.foci("#01", ".0");
+        DUE.foci("[1,2,(3,4)]", "/0", "1");
+        DUE.foci("[1,2,(3,4)]", "/2", "(3,4)");
+        DUE.foci("[1,2,(3,4)]", "/3");
+        DUE.foci("[1,2,(3,4)]", "/02", "(3,4)");
+        DUE.foci("[0,1,2,3,4,5,6,7,8,9,10,11]", "/11", "11");
+        DUE.foci("[]", "/0");
+        DUE.foci("(1,2)", "/0");
+        DUE.foci("{a:1}", "/0");
+        DUE.foci("{a:1,b:2,ab:3,abc:4}", "$b.", "2");
+        DUE.foci("{a:1,b:2,ab:3,abc:4}", "$ab.", "3");
+        DUE.foci("{a:1,b:2,ab:3,abc:4}", "$abc.", "4");
+        DUE.foci("{a:1,b:2,ab:3,abc:4}", "$c.");
+        DUE.foci("{a:1,b:2,ab:3,abc:4}", "$ba.");
+        DUE.foci("[1]", "$a.");
+        DUE.foci("#3[1]", "#3", "[1]");
+        DUE.foci("#3[1]", "#2");
+        DUE.foci("#0#01", "#0", "#01");
+        DUE.foci("[1]", "#0");
+        DUE.foci("[1,[2]]", "*", "1", "[2]");
+        DUE.foci("{b:1,aa:2,a:3}", "*", "3", "1", "2");
+        DUE.foci("(1,2)", "*");
+        DUE.foci("#11", "*");
+        DUE.foci("5", "*");
+        DUE.foci("{}", "*");
+        DUE.foci("(1,[2])", "~", "1", "[2]");
+        DUE.foci("[1,[2]]", "~", "1", "[2]");
+        DUE.foci("{b:1,a:2}", "~", "2", "1");
+        DUE.foci("#1(2,3)", "~", "(2,3)");
+        DUE.foci("5", "~");
+        DUE.foci("[]", "~");
+        DUE.foci("5", "%", "5");
+        DUE.foci("[(1,2),{b:3,a:#1[4]},[],{},(5,(6,7))]", "%", "1", "2", "4", "3", "5", "6", "7");
+        DUE.foci("[1,[2],(3,4)]", "*<1>", "1");
+        DUE.foci("[1,[2],(3,4)]", "*<2>", "1", "[2]");
+        DUE.foci("[1,[2],(3,4)]", "*<3>", "1", "[2]", "(3,4)");
+        DUE.foci("1", "<0>");
+        DUE.foci("[1,-2,2,[2]]", "*=2;", "2");
+        DUE.foci("[1,-2,2,[2]]", "%=2;", "2", "2");
+        DUE.foci("[1,-2,2,[2]]", "*=-2;", "-2");
+        DUE.foci("[0,1]", "*=-0;", "0");
+        DUE.foci("[(1,2),(3,4),[5]]", "*.1", "2", "4");
+        DUE.foci("[{a:(1,2)},{b:3},{a:4}]", "*$a.", "(1,2)", "4");
+        DUE.foci("[{a:(1,2)},{b:3},{a:4}]", "*$a.~", "1", "2");
+        DUE.foci("[[1,[2]],[3]]", "~~%", "1", "2", "3");
+        DUE.foci("[1,2]", "%%%", "1", "2");
+        DUE.foci("[1,2]", "%~");
+        DUE.foci("[[1,2],[3],[4,5,6]]", "*<3>*", "1", "2", "3");
     }
 
     private static void look() {
@@ -134,22 +122,15 @@ public final class LookTest {
         }
     }
 
-    private static void folds(String thing, String path, long... due) {
-        NestedFoci x = Due.with(thing, path);
-        for (int code = 0; code < due.length; code++) {
-            DUE.is("fold " + code + " of " + path + " in " + thing, x.fold(0, 0, code), due[code]);
-        }
-    }
-
     private static void folds() {
         long no = NestedFoci.NO;
-        folds("[3,1,(2,2),1,(2,2),3]", "*", 6, 16, 2, 1, 3, 1, 10);
-        folds("[3,1,(2,2),1,(2,2),3]", "%", 8, 16, 0, 1, 3, 0, 8);
-        folds("[3,1,(2,2),1,(2,2),3]", "", 1, 16, 0, 0, 1, 2, 11);
-        folds("[]", "*", 0, 0, no, no, 0, no, 0);
-        folds("[]", "", 1, 0, 0, 0, 1, 0, 1);
-        folds("[[1],[[2]],[],{a:[[[7]]]}]", "*", 4, 10, 3, 2, 4, 4, 2 + 3 + 1 + 5);
-        folds("[-5,-5,-6,-6]", "*", 4, -22, 0, 2, 2, 0, 4);
+        DUE.folds("[3,1,(2,2),1,(2,2),3]", "*", 6, 16, 2, 1, 3, 1, 10);
+        DUE.folds("[3,1,(2,2),1,(2,2),3]", "%", 8, 16, 0, 1, 3, 0, 8);
+        DUE.folds("[3,1,(2,2),1,(2,2),3]", "", 1, 16, 0, 0, 1, 2, 11);
+        DUE.folds("[]", "*", 0, 0, no, no, 0, no, 0);
+        DUE.folds("[]", "", 1, 0, 0, 0, 1, 0, 1);
+        DUE.folds("[[1],[[2]],[],{a:[[[7]]]}]", "*", 4, 10, 3, 2, 4, 4, 2 + 3 + 1 + 5);
+        DUE.folds("[-5,-5,-6,-6]", "*", 4, -22, 0, 2, 2, 0, 4);
         // the sum is a long: what wraps in a NUMBER doesn't in a FOLD
         NestedFoci x = Due.with("[0,0,0]", "*");
         x.over(0, 0, 0, 2, Integer.MAX_VALUE);
@@ -193,25 +174,16 @@ public final class LookTest {
         }
     }
 
-    private static void best(String thing, int order, int... places) {
-        NestedFoci x = Due.with(thing, "*");
-        for (int n = 0; n < places.length; n++) {
-            DUE.is("best " + n + " by " + order + " of " + thing, x.best(0, 0, order, n), places[n]);
-        }
-        DUE.is("best behind the last of " + thing, x.best(0, 0, order, places.length), NestedFoci.NONE);
-        DUE.is("best -1 of " + thing, x.best(0, 0, order, -1), NestedFoci.NONE);
-    }
-
     private static void best() {
         String some = "[[1,2],7,#1[],(1,2),3,[[]],7,{a:1,b:2},[1,1]]";
-        best(some, 0, 4, 1, 6, 3, 8, 0, 5, 7, 2);
-        best(some, 1, 4, 1, 6, 5, 2, 3, 8, 0, 7);
-        best(some, 2, 2, 5, 0, 3, 7, 8, 1, 4, 6);
-        best("[[[1]],[[],1,1],5]", 2, 0, 1, 2);
-        best("[[[[]]],[9,9,9,9],[[1]],[]]", 2, 0, 2, 1, 3);
-        best("[]", 0);
-        best("[]", 1);
-        best("[]", 2);
+        DUE.best(some, 0, 4, 1, 6, 3, 8, 0, 5, 7, 2);
+        DUE.best(some, 1, 4, 1, 6, 5, 2, 3, 8, 0, 7);
+        DUE.best(some, 2, 2, 5, 0, 3, 7, 8, 1, 4, 6);
+        DUE.best("[[[1]],[[],1,1],5]", 2, 0, 1, 2);
+        DUE.best("[[[[]]],[9,9,9,9],[[1]],[]]", 2, 0, 2, 1, 3);
+        DUE.best("[]", 0);
+        DUE.best("[]", 1);
+        DUE.best("[]", 2);
         NestedFoci x = Due.with("[1,2]", "*");
         for (int order : new int[] {-1, 3, Integer.MIN_VALUE, Integer.MAX_VALUE}) {
             DUE.is("best by " + order, x.best(0, 0, order, 0), NestedFoci.BAD);
@@ -278,49 +250,35 @@ public final class LookTest {
         }
     }
 
-    private static void differ(String p, String q, int... places) {
-        NestedFoci x = new NestedFoci();
-        Due.thing(x, 0, p);
-        Due.thing(x, 1, q);
-        String call = "differ " + p + " " + q;
-        DUE.is(call, x.differ(0, 1, -1), places.length);
-        for (int k = 0; k < places.length; k++) {
-            DUE.is(call + " " + k, x.differ(0, 1, k), places[k]);
-        }
-        for (int k : new int[] {places.length, -2, Integer.MIN_VALUE, Integer.MAX_VALUE}) {
-            DUE.is(call + " " + k, x.differ(0, 1, k), NestedFoci.NONE);
-        }
-        for (int bad : SHELF_LIKE) {
-            DUE.is("differ a " + bad, x.differ(bad, 0, -1), NestedFoci.BAD);
-            DUE.is("differ b " + bad, x.differ(0, bad, 5), NestedFoci.BAD);
-        }
-    }
-
     private static void differ() {
-        differ("1", "1");
-        differ("[1,(2,3)]", "[1,(2,3)]");
-        differ("1", "2", 0);
-        differ("(1,2)", "[1,2]", 0);
-        differ("(1,2)", "(3,4)", 1, 2);
-        differ("((1,2),(3,4))", "((1,0),(0,4))", 3, 5);
-        differ("[1,[2,3],4]", "[1,[2,0],0]", 4, 5);
-        differ("[1,[2,3],4]", "[1,[2],0]", 2, 5);
-        differ("[1,2]", "[1,2,3]", 0);
-        differ("[]", "[0]", 0);
-        differ("[]", "{}", 0);
-        differ("{a:1,b:2}", "{b:0,a:1}", 2);
-        differ("{b:1,aa:2,a:(3,4)}", "{b:0,aa:0,a:(3,0)}", 3, 4, 5);
-        differ("{a:1,b:2}", "{a:1,c:2}", 0);
-        differ("{a:1,b:2}", "{a:1}", 0);
-        differ("#1(2,3)", "#1(2,4)", 3);
-        differ("#1(2,3)", "#2(2,3)", 0);
-        differ("[#1(2,3),7]", "[#2(2,3),8]", 1, 5);
-        differ("[(1,1),(1,1),(1,1)]", "[(1,2),7,(2,2)]", 3, 4, 8, 9);
+        DUE.differ("1", "1");
+        DUE.differ("[1,(2,3)]", "[1,(2,3)]");
+        DUE.differ("1", "2", 0);
+        DUE.differ("(1,2)", "[1,2]", 0);
+        DUE.differ("(1,2)", "(3,4)", 1, 2);
+        DUE.differ("((1,2),(3,4))", "((1,0),(0,4))", 3, 5);
+        DUE.differ("[1,[2,3],4]", "[1,[2,0],0]", 4, 5);
+        DUE.differ("[1,[2,3],4]", "[1,[2],0]", 2, 5);
+        DUE.differ("[1,2]", "[1,2,3]", 0);
+        DUE.differ("[]", "[0]", 0);
+        DUE.differ("[]", "{}", 0);
+        DUE.differ("{a:1,b:2}", "{b:0,a:1}", 2);
+        DUE.differ("{b:1,aa:2,a:(3,4)}", "{b:0,aa:0,a:(3,0)}", 3, 4, 5);
+        DUE.differ("{a:1,b:2}", "{a:1,c:2}", 0);
+        DUE.differ("{a:1,b:2}", "{a:1}", 0);
+        DUE.differ("#1(2,3)", "#1(2,4)", 3);
+        DUE.differ("#1(2,3)", "#2(2,3)", 0);
+        DUE.differ("[#1(2,3),7]", "[#2(2,3),8]", 1, 5);
+        DUE.differ("[(1,1),(1,1),(1,1)]", "[(1,2),7,(2,2)]", 3, 4, 8, 9);
         NestedFoci x = Due.with("[1,2,3]", "");
         x.put(1, 1, 0, 0, 0);
         Due.path(x, 1, "%");
         x.over(2, 1, 1, 0, 1);
         DUE.is("a NODE that stands twice counts twice", x.differ(1, 2, -1), 6);
         DUE.is("the last of these", x.differ(1, 2, 5), 8);
+        for (int bad : SHELF_LIKE) {
+            DUE.is("differ a " + bad, x.differ(bad, 0, -1), NestedFoci.BAD);
+            DUE.is("differ b " + bad, x.differ(0, bad, 5), NestedFoci.BAD);
+        }
     }
 }
