@@ -30,7 +30,7 @@ public final class AnswersTest {
 
     private static void none() {
         DUE.is("NONE", NestedFoci.NONE, -1);
-        NestedFoci x = Due.with("[1,2,{a:3}]", "*");
+        NestedFoci x = Due.with("[1,(2,2),{a:3}]", "*");
         for (int k : FAR) {
             DUE.is("take " + k, x.take(1, 0, 0, k), -1);
             DUE.is("key of " + k, x.key(0, 0, k, 0), -1);

@@ -154,6 +154,8 @@ public final class PromisesTest {
         DUE.holds("told", x, 0, "[1,2,3,10]");
         DUE.is("bytes above 127", x.feed(4, -1), 4);
         DUE.is("are none of a THING", x.thing(0), -100);
+        DUE.is("7 with the highest bit", x.feed(1, 0xB7), 1);
+        DUE.is("is none either", x.thing(0), -100);
         DUE.is("what is above the n bytes is nothing", x.feed(1, 0xFFFFFF37), 1);
         DUE.is("told: 7", x.thing(0), 1);
         DUE.is("worth", x.look(0, 0, 0, 1), 7);
@@ -503,7 +505,7 @@ public final class PromisesTest {
 
     // ---- look, key, fold, best
 
-    private static final String KINDS = "[-7,(1,2),[1,[2]],{a:1,b:2,c:3},#4(5,#1[]),[],{},0]";
+    private static final String KINDS = "[-7,(1,2),[[1],2],{a:1,b:2,c:3},#4(5,#1[]),[],{},0]";
 
     private static void lookAll(int what, int... due) {
         NestedFoci x = Due.with(KINDS, "*");
@@ -568,7 +570,7 @@ public final class PromisesTest {
     }
 
     private static void keyNone() {
-        NestedFoci x = Due.with("[{a:1,b:2},[3],{},(1,2),#1{a:1},5]", "*");
+        NestedFoci x = Due.with("[5,[3],{},(1,2),#1{a:1},{a:1,b:2}]", "*");
         for (int shelf : NO_SHELF) {
             DUE.is("shelf " + shelf, x.key(shelf, 0, 0, 0), NONE);
         }
@@ -577,14 +579,14 @@ public final class PromisesTest {
         }
         for (int k : NO_PLACE) {
             DUE.is("FOCUS " + k, x.key(0, 0, k, 0), NONE);
-            DUE.is("KEY " + k, x.key(0, 0, 0, k), NONE);
+            DUE.is("KEY " + k, x.key(0, 0, 5, k), NONE);
         }
         DUE.is("FOCUS 6", x.key(0, 0, 6, 0), NONE);
-        for (int k = 1; k < 6; k++) {
+        for (int k = 0; k < 5; k++) {
             DUE.is("no MAP, or an empty one, " + k, x.key(0, 0, k, 0), NONE);
         }
-        DUE.is("the last KEY", x.key(0, 0, 0, 1), 2);
-        DUE.is("behind the last KEY", x.key(0, 0, 0, 2), NONE);
+        DUE.is("the last KEY", x.key(0, 0, 5, 1), 2);
+        DUE.is("behind the last KEY", x.key(0, 0, 5, 2), NONE);
         DUE.is("no FOCI", x.key(1, 0, 0, 0), NONE);
     }
 
@@ -669,6 +671,9 @@ public final class PromisesTest {
         DUE.is("shared", x.shared(0, 1), 2);
         DUE.is("with itself", x.shared(1, 1), 1);
         DUE.is("none", x.shared(2, 3), 0);
+        x.put(4, 1, 0, 0, 0);
+        DUE.is("at two places of the first", x.shared(4, 0), 2);
+        DUE.is("at two places of the second", x.shared(0, 4), 1);
         Calls.areBad(DUE, "shared");
         asks("shared", y -> y.shared(2, 0), 1);
     }
@@ -752,6 +757,7 @@ public final class PromisesTest {
         NestedFoci x = some();
         x.path(7);
         int all = x.image();
+        DUE.is("image", all, 11 + 19 + 4 + 11 + 8);
         Due.thing(x, 0, "9");
         Due.path(x, 0, "");
         x.undo(1);

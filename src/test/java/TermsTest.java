@@ -467,6 +467,10 @@ public final class TermsTest {
         DUE.failsAt("()", 1);
         DUE.failsAt("(,2)", 1);
         DUE.failsAt("(1;2)", 2);
+        DUE.failsAt("(1-2)", 2);
+        DUE.failsAt("(1(2,3))", 2);
+        DUE.failsAt("[(1,2,3]", 5);
+        DUE.failsAt("[(1,2]", 5);
         DUE.failsAt("(1)", 2);
         DUE.failsAt("(1,)", 3);
         DUE.failsAt("(1,2]", 4);
@@ -484,6 +488,9 @@ public final class TermsTest {
         DUE.failsAt("[1,]", 3);
         DUE.failsAt("[1,,2]", 3);
         DUE.failsAt("[1 2]", 2);
+        DUE.failsAt("[1-2]", 2);
+        DUE.failsAt("[1[2]]", 2);
+        DUE.failsAt("[[1,2]", 6);
         DUE.failsAt("[1}", 2);
         DUE.failsAt("[}", 1);
         DUE.failsAt("[]]", 2);
@@ -497,6 +504,9 @@ public final class TermsTest {
         DUE.failsAt("{,}", 1);
         DUE.failsAt("{a}", 2);
         DUE.failsAt("{a,1}", 2);
+        DUE.failsAt("{a1}", 2);
+        DUE.failsAt("{a[]}", 2);
+        DUE.failsAt("{a:1b:2}", 4);
         DUE.failsAt("{a:}", 3);
         DUE.failsAt("{a:1,}", 5);
         DUE.failsAt("{a:1,2}", 5);
@@ -545,6 +555,8 @@ public final class TermsTest {
         DUE.pathFailsAt("./", 1);
         DUE.pathFailsAt(".00", 2);
         DUE.pathFailsAt(".-0", 1);
+        DUE.foci("(5,6)", ".0", "5");
+        DUE.foci("(5,6)", ".1", "6");
     }
 
     private static void placeStep() {
@@ -902,6 +914,7 @@ public final class TermsTest {
         DUE.foci("[1,[2]]", "<3>");
         DUE.foci("5", "=5;", "5");
         DUE.foci("5", "=4;");
+        DUE.foci("5", "=6;");
         DUE.foci("[5]", "=5;");
         NestedFoci x = Due.with("[1,[2]]", "<4>");
         x.take(1, 0, 0, 0);
