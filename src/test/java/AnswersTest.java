@@ -220,12 +220,7 @@ public final class AnswersTest {
         before = x.count(21);
         DUE.is("over by what is there twice", x.over(5, 4, 0, 7, 1), 2);
         DUE.is("made by none", x.count(21), before);
-        DUE.is("with nothing left to make", madeOfTheSame(), 1);
-    }
-
-    private static long madeOfTheSame() {
-        NestedFoci x = DUE.spent(3000);
-        return x.over(1, 0, 6, 7, 0);
+        DUE.is("with nothing left to make", DUE.spent(3000).over(1, 0, 6, 7, 0), 1);
     }
 
     private static void madeNotFull() {

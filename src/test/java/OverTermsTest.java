@@ -306,12 +306,9 @@ public final class OverTermsTest {
         x.over(1, 0, 0, how, n);
         DUE.is("made by how " + how + " of " + thing, x.count(21) - before, 1);
         DUE.is("ALIKE by how " + how + " of " + thing, x.order(1, 0), 0);
-        DUE.is("another by how " + how + " of " + thing, x.shared(1, 0), x.look(0, 0, 0, 1) > 0 ? parts(x) : 0);
-    }
-
-    /** All that is just in SHELF 0's THING is still shared, however it was changed about. */
-    private static int parts(NestedFoci x) {
-        return x.look(0, 0, 0, 0) == 0 ? 0 : (int) x.look(0, 0, 0, 1);
+        // all that is just in it is still shared, however it was changed about
+        long inIt = x.look(0, 0, 0, 0) == 0 ? 0 : x.look(0, 0, 0, 1);
+        DUE.is("another by how " + how + " of " + thing, x.shared(1, 0), inIt);
     }
 
     private static void anotherThing() {

@@ -18,7 +18,7 @@ public final class PromisesTest {
 
     public static void main(String[] args) throws IOException {
         Sentences s = new Sentences(DUE, "## Promise 1:", "## Not promised");
-        for (int i = NAMES.length; i >= 1; i--) {
+        for (int i = 1; i <= NAMES.length; i++) {
             s.heading("## Promise " + i + ": " + NAMES[i - 1]);
         }
         sayTelling(s);
@@ -429,7 +429,6 @@ public final class PromisesTest {
         DUE.is("counts none", x.put(4, 1, 3, 3, 0), FULL);
         DUE.is("as many as ahead", x.count(21), made);
         NestedFoci y = DUE.spent(2999);
-        Due.thing(y, 4, "x");
         DUE.is("one left", y.put(5, 0, 3, 3, 0), 3);
         DUE.is("none left", y.put(5, 0, 3, 3, 0), MADE);
         DUE.is("became once", y.count(5), 1);
