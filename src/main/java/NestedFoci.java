@@ -453,7 +453,7 @@ public final class NestedFoci {
         }
 
         /** Below 0 if a is ahead of b as ORDERED, above 0 if b is, 0 if they are ALIKE. */
-        static int compare(Thing a, Thing b, int depth) {
+        private static int compare(Thing a, Thing b, int depth) {
             if (a == b || a == null || b == null || depth > DEEPEST) {
                 return 0;
             }
@@ -474,7 +474,7 @@ public final class NestedFoci {
         }
 
         /** Whether THE SAME THING as the sought one is a NODE of the outer one. */
-        static boolean holds(Thing outer, Thing sought, int depth) {
+        private static boolean holds(Thing outer, Thing sought, int depth) {
             if (outer == null || sought == null || depth > DEEPEST) {
                 return false;
             }

@@ -1,18 +1,12 @@
-import java.io.IOException;
 import java.lang.reflect.Constructor;
 import java.lang.reflect.Field;
 import java.lang.reflect.Method;
 import java.lang.reflect.Modifier;
-import java.nio.file.Files;
-import java.nio.file.Path;
-import java.util.Arrays;
 import java.util.List;
 import java.util.Set;
 import java.util.TreeSet;
-import java.util.regex.Matcher;
-import java.util.regex.Pattern;
 
-/** The public face as the document writes it, and those rules of LANGUAGE.md that a program can look after. */
+/** The public face as the document writes it, and nothing beside it: LANGUAGE.md, rule 1. */
 public final class FaceTest {
     private static final Due DUE = new Due();
     private static final List<String> METHODS = List.of(
@@ -27,10 +21,8 @@ public final class FaceTest {
         "public int NestedFoci.count(int)");
     private static final Set<String> CONSTANTS = Set.of("NONE", "BAD", "STATE", "FULL", "MADE", "NO");
 
-    public static void main(String[] args) throws IOException {
+    public static void main(String[] args) {
         face();
-        classes();
-        source();
         DUE.end();
     }
 
@@ -65,44 +57,6 @@ public final class FaceTest {
         for (Method m : NestedFoci.class.getDeclaredMethods()) {
             boolean isTwice = Modifier.isPrivate(m.getModifiers()) && names.contains(m.getName());
             DUE.is("a private name of the face: " + m, isTwice ? 1 : 0, 0);
-        }
-    }
-
-    private static void classes() {
-        Class<?>[] inside = NestedFoci.class.getDeclaredClasses();
-        DUE.is("some twelve classes, has " + inside.length, inside.length <= 12 ? 1 : 0, 1);
-        for (Class<?> c : inside) {
-            DUE.is(c + " is static", Modifier.isStatic(c.getModifiers()) ? 1 : 0, 1);
-            DUE.is(c + " isn't public", Modifier.isPublic(c.getModifiers()) ? 1 : 0, 0);
-            long fields = Arrays.stream(c.getDeclaredFields()).filter(f -> !Modifier.isStatic(f.getModifiers())).count();
-            DUE.is(c + " has some twenty fields", fields <= 20 ? 1 : 0, 1);
-            for (Method m : c.getDeclaredMethods()) {
-                DUE.is(m + " has seven parameters", m.getParameterCount() <= 7 ? 1 : 0, 1);
-            }
-        }
-    }
-
-    private static void source() throws IOException {
-        String text = Files.readString(Path.of("src/main/java/NestedFoci.java"));
-        String code = text.replaceAll("(?s)/\\*.*?\\*/", "").replaceAll("//[^\n]*", "").replaceAll("'[^']+'", "' '");
-        String[] barred = {"import", "package", "->", "::", "catch", "finally", "synchronized", "assert", "instanceof",
-            "Object", "System", "String", "double", "float", "hashCode", "toString", "equals", "throw", "Exact", "\"", "volatile",
-            "enum", "lambda", "protected", "Arrays", "List", "clone", "var "};
-        for (String word : barred) {
-            DUE.is("the source has " + word, code.contains(word) ? 1 : 0, 0);
-        }
-        Matcher library = Pattern.compile("\\b(Math|Integer|Long)\\.(\\w+)").matcher(code);
-        while (library.find()) {
-            boolean isListed = Set.of("min", "max", "compare", "MIN_VALUE").contains(library.group(2));
-            DUE.is("of the library: " + library.group(), isListed ? 1 : 0, 1);
-        }
-        int length = 0;
-        for (String line : code.split("\n")) {
-            boolean isHead = line.matches(" {4}( {4})?[\\w\\[\\]]+( [\\w\\[\\]]+)*\\(.*\\) \\{");
-            length = isHead ? 0 : length + 1;
-            boolean isEnd = line.matches(" {4}( {4})?\\}");
-            DUE.is("a method of " + length + " lines", isEnd && length > 60 && length < 200 ? 1 : 0, 0);
-            DUE.is("a long line: " + line, line.length() <= 120 ? 0 : 1, 0);
         }
     }
 }

@@ -216,7 +216,8 @@ public final class ModelTest {
     }
 
     private String spoilt(String text) {
-        char stray = STRAY.charAt(random.nextInt(STRAY.length()));
+        boolean isUsual = random.nextInt(4) != 0;
+        char stray = isUsual ? STRAY.charAt(random.nextInt(STRAY.length())) : (char) random.nextInt(256);
         int at = random.nextInt(text.length() + 1);
         switch (random.nextInt(4)) {
             case 0:
